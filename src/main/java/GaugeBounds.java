@@ -260,7 +260,7 @@ public final class GaugeBounds {
             if (!within(k, 0, POINTS - 1) || !within(v, 0, MOST_VOLTS)) {
                 return BAD;
             }
-            if (k > 0 && points[k - 1] >= v || k < POINTS - 1 && points[k + 1] <= v) {
+            if ((k > 0 && points[k - 1] >= v) || (k < POINTS - 1 && points[k + 1] <= v)) {
                 return NO;
             }
             int was = points[k];

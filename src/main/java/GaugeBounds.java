@@ -16,8 +16,8 @@ public final class GaugeBounds {
 
     private final Battery battery;
     private final States states;
-    private final Orders orders;
     private final byte[] text;
+    private final Orders orders;
     private int textLength;
     private int timesBad;
     private int timesNo;
@@ -26,8 +26,8 @@ public final class GaugeBounds {
     public GaugeBounds() {
         battery = new Battery();
         states = new States();
-        orders = new Orders();
         text = new byte[TEXT_ROOM];
+        orders = new Orders(text);
     }
 
     // ---- what is told in
@@ -127,7 +127,7 @@ public final class GaugeBounds {
     }
 
     public int does() {
-        if (!orders.read(text, textLength)) {
+        if (!orders.read(textLength)) {
             return FAULT_BASE - orders.place();
         }
         states.mark(battery);
@@ -719,16 +719,17 @@ public final class GaugeBounds {
         private static final int MOST = TEXT_ROOM / 3;
         private static final int MOST_FIGURES = 4;
 
+        private final byte[] bytes;
         private final int[] kinds;
         private final int[] firsts;
         private final int[] seconds;
         private int size;
-        private byte[] bytes;
         private int length;
         private int place;
         private int number;
 
-        Orders() {
+        Orders(byte[] text) {
+            bytes = text;
             kinds = new int[MOST];
             firsts = new int[MOST];
             seconds = new int[MOST];
@@ -754,9 +755,8 @@ public final class GaugeBounds {
             return within(order, 0, size - 1) ? seconds[order] : 0;
         }
 
-        boolean read(byte[] text, int textLength) {
-            bytes = text;
-            length = textLength;
+        boolean read(int textLength) {
+            length = Math.min(textLength, bytes.length);
             place = 0;
             size = 0;
             skipBlanks();
@@ -821,7 +821,7 @@ public final class GaugeBounds {
 
         /** The byte at the place; behind the text's end one that can stand nowhere. */
         private int here() {
-            return bytes != null && place < length && place < bytes.length ? bytes[place] : -1;
+            return place < length ? bytes[place] : -1;
         }
 
         private static boolean isKind(int kind) {

@@ -41,6 +41,11 @@ public final class BeginsHoldsTest {
                 Check.due("band(.., 1)", x.band(sign, tenth, 1), 0);
             }
         }
+        Check.due("loads(5, 3600)", x.loads(5, 3600), 1780);
+        Check.due("nothing of the BAND is left", x.band(0, 6, 0), 1780);
+        x.holds(600, 600);
+        Check.due("loads(5, 3400)", x.loads(5, 3400), 260);
+        Check.due("nothing of the BAND is left", x.band(0, 4, 0), 260);
         x.passes(10, 10);
         x.rests(3300);
         Check.due("no REST was ahead: C", x.told(2), 900);
@@ -84,6 +89,16 @@ public final class BeginsHoldsTest {
         Check.due("MIDDLE, if C + D is 0", x.told(4), 0);
         Check.due("back()", x.back(), 0);
         Check.due("C is back", x.told(2), 500);
+        Check.due("D is back", x.told(3), 1000);
+        x.begins(7, 8);
+        x.passes(0, 3);
+        x.loads(-9, 0);
+        x.begins(9, 10);
+        Check.due("back()", x.back(), 3);
+        Check.due("C is back", x.told(2), 7);
+        Check.due("D is back", x.told(3), 8);
+        Check.due("STEPS are back", x.told(7), 3);
+        Check.due("a BAND is back", x.bands(), 1);
     }
 
     private static void holds() {

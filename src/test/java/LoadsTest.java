@@ -89,6 +89,10 @@ public final class LoadsTest {
         Check.due("back()", x.back(), 1);
         Check.due("band(0, 6, 0)", x.band(0, 6, 0), 2660);
         Check.due("band(0, 6, 1)", x.band(0, 6, 1), 1);
+        x.loads(-10, 3300);
+        x.loads(-10, 3400);
+        Check.due("back()", x.back(), 2);
+        Check.due("band(1, 6, 0)", x.band(1, 6, 0), -3660);
     }
 
     /** So many loads that their sum is more than an int holds. */

@@ -86,6 +86,7 @@ public final class PassesTest {
         shows(x, "t at least", 1, 100, 44);
         x.holds(900, 1000);
         shows(x, "drawn: never more than it was", 1, 5, 44);
+        shows(x, "i 0, t above it: as it was", 0, 5, 44);
         shows(x, "n more", -1, 5, 49);
         shows(x, "t at most", -1, 90, 99);
         x.holds(0, 100);

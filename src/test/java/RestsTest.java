@@ -6,6 +6,7 @@ public final class RestsTest {
         learnsCutAndUp();
         learnsWithOffset();
         clashesTwice();
+        learnsAtTheEdges();
         learnsNothingFromCharging();
         capsByCapacity();
         refusals();
@@ -82,6 +83,27 @@ public final class RestsTest {
         x.passes(10, 10);
         Check.due("rests(3350)", x.rests(3350), 0);
         toldAre(x, "behind two CLASHES", 200, 200, 600, 600, 333, 60, 0, 0, 2, 3, 350, 350);
+    }
+
+    private static void learnsAtTheEdges() {
+        toldAre(rested(3700, 1, 3699), "e 1, B - a 1", 699, 699, 1000, 1000);
+        toldAre(rested(3703, 1, 3700), "f 1, up by a third", 233, 234, 333, 334);
+        toldAre(rested(3700, 5, 3700), "B and a the same", 0, 3495, 0, 5000, 699, 99, 0, 0, 0);
+        toldAre(rested(3700, 0, 3600), "nothing drawn", 0, 3000, 0, 5000, 600, 100, 0, 0, 0);
+        toldAre(rested(3700, 5, 3800), "drawn, but it rose", 0, 3495, 0, 5000, 699, 99, 0, 0, 0);
+        toldAre(rested(3700, -5, 3600), "charged, but it fell", 5, 3000, 0, 5000, 601, 100, 0, 0, 0);
+        GaugeBounds x = exact();
+        x.begins(0, 1001);
+        Check.due("b D / 1000, up by a thousandth", x.rests(3001), 2);
+    }
+
+    private static GaugeBounds rested(int v, int i, int then) {
+        GaugeBounds x = exact();
+        x.begins(0, 5000);
+        x.rests(v);
+        x.passes(i, 1);
+        x.rests(then);
+        return x;
     }
 
     private static void learnsNothingFromCharging() {

@@ -62,8 +62,10 @@ public final class SettingsTest {
         Check.due("curve(10, 3901)", x.curve(10, 3901), 4000);
         Check.due("curve(4, 3300)", x.curve(4, 3300), GaugeBounds.NO);
         Check.due("curve(4, 3500)", x.curve(4, 3500), GaugeBounds.NO);
+        Check.due("curve(1, 3099)", x.curve(1, 3099), GaugeBounds.NO);
+        Check.due("curve(9, 3901)", x.curve(9, 3901), GaugeBounds.NO);
         Check.due("setting(6)", x.setting(6), 3400);
-        Check.due("refused(1)", x.refused(1), 4);
+        Check.due("refused(1)", x.refused(1), 6);
         Check.due("refused(4)", x.refused(4), 2);
     }
 

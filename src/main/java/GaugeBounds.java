@@ -2,10 +2,8 @@
 public final class GaugeBounds {
     public static final int NONE = -10000001, BAD = -10000002, NO = -10000003, FULL = -10000004;
 
-    private static final int TEXT_ROOM = 120;
     private static final int FAULT_BASE = -10;
     private static final int ENDING_BASE = -1000;
-    private static final int LAST_BYTE = 127;
 
     private static final int DIGEST_SEED = 1690;
     private static final int DIGEST_FACTOR = 31;
@@ -16,9 +14,7 @@ public final class GaugeBounds {
 
     private final Battery battery;
     private final States states;
-    private final byte[] text;
-    private final Orders orders;
-    private int textLength;
+    private final Text text;
     private int timesBad;
     private int timesNo;
     private int timesFull;
@@ -26,8 +22,7 @@ public final class GaugeBounds {
     public GaugeBounds() {
         battery = new Battery();
         states = new States();
-        text = new byte[TEXT_ROOM];
-        orders = new Orders(text);
+        text = new Text();
     }
 
     // ---- what is told in
@@ -109,29 +104,19 @@ public final class GaugeBounds {
     // ---- texts
 
     public int type(int c) {
-        if (!within(c, 0, LAST_BYTE)) {
-            return counted(BAD);
-        }
-        if (textLength >= TEXT_ROOM) {
-            return counted(FULL);
-        }
-        text[textLength] = (byte) c;
-        textLength++;
-        return textLength;
+        return counted(text.append(c));
     }
 
     public int clear() {
-        int had = textLength;
-        textLength = 0;
-        return had;
+        return text.empty();
     }
 
     public int does() {
-        if (!orders.read(textLength)) {
-            return FAULT_BASE - orders.place();
+        if (!text.read()) {
+            return FAULT_BASE - text.place();
         }
         states.mark(battery);
-        for (int number = 0; number < orders.size(); number++) {
+        for (int number = 0; number < text.orders(); number++) {
             if (isRefusal(obey(number))) {
                 // orders ahead of this one have been done already
                 states.restoreMarked(battery);
@@ -139,7 +124,7 @@ public final class GaugeBounds {
             }
         }
         states.keepMarked();
-        return orders.size();
+        return text.orders();
     }
 
     public int back() {
@@ -155,7 +140,7 @@ public final class GaugeBounds {
             case 0: return timesBad;
             case 1: return timesNo;
             case 2: return timesFull;
-            case 3: return textLength;
+            case 3: return text.length();
             case 4: return states.size();
             default: return counted(BAD);
         }
@@ -206,9 +191,9 @@ public final class GaugeBounds {
     }
 
     private int obey(int number) {
-        int first = orders.firstOf(number);
-        int second = orders.secondOf(number);
-        switch (orders.kindOf(number)) {
+        int first = text.firstOf(number);
+        int second = text.secondOf(number);
+        switch (text.kindOf(number)) {
             case 'p': return battery.pass(first, second);
             case 'r': return battery.rest(first);
             case 'l': return battery.load(first, second);
@@ -269,10 +254,10 @@ public final class GaugeBounds {
         }
 
         int voltsAt(int p) {
-            if (!within(p, 0, WHOLE)) {
+            if (p < 0 || p > WHOLE) {
                 return BAD;
             }
-            int k = Math.min(p / STRETCH, POINTS - 2);
+            int k = p == WHOLE ? POINTS - 2 : p / STRETCH;
             return points[k] + (points[k + 1] - points[k]) * (p - STRETCH * k) / STRETCH;
         }
 
@@ -597,8 +582,10 @@ public final class GaugeBounds {
             }
             int a = curve.leastReaching(v - cling);
             int b = curve.greatestWithin(v + cling);
-            boolean changed = a != NONE && b != NONE && a > b;
-            return (what == 0) != changed ? a : b;
+            if (a == NONE || b == NONE) {
+                return what == 0 ? a : b;
+            }
+            return what == 0 ? Math.min(a, b) : Math.max(a, b);
         }
 
         int tellBand(int sign, int tenth, int what) {
@@ -713,30 +700,54 @@ public final class GaugeBounds {
         }
     }
 
-    /** Reads THE TEXT whole into orders. Where it stops at a fault, its place is the fault's. */
-    private static final class Orders {
+    /** THE TEXT, and the orders read from it. Where reading stops at a fault, its place is the fault's. */
+    private static final class Text {
+        private static final int ROOM = 120;
+        private static final int LAST_BYTE = 127;
         // the shortest order has three bytes: r0;
-        private static final int MOST = TEXT_ROOM / 3;
+        private static final int MOST_ORDERS = ROOM / 3;
         private static final int MOST_FIGURES = 4;
 
         private final byte[] bytes;
+        private int length;
         private final int[] kinds;
         private final int[] firsts;
         private final int[] seconds;
-        private int size;
-        private int length;
+        private int orders;
         private int place;
         private int number;
 
-        Orders(byte[] text) {
-            bytes = text;
-            kinds = new int[MOST];
-            firsts = new int[MOST];
-            seconds = new int[MOST];
+        Text() {
+            bytes = new byte[ROOM];
+            kinds = new int[MOST_ORDERS];
+            firsts = new int[MOST_ORDERS];
+            seconds = new int[MOST_ORDERS];
         }
 
-        int size() {
-            return size;
+        int length() {
+            return length;
+        }
+
+        int append(int c) {
+            if (!within(c, 0, LAST_BYTE)) {
+                return BAD;
+            }
+            if (length >= ROOM) {
+                return FULL;
+            }
+            bytes[length] = (byte) c;
+            length++;
+            return length;
+        }
+
+        int empty() {
+            int had = length;
+            length = 0;
+            return had;
+        }
+
+        int orders() {
+            return orders;
         }
 
         int place() {
@@ -744,35 +755,33 @@ public final class GaugeBounds {
         }
 
         int kindOf(int order) {
-            return within(order, 0, size - 1) ? kinds[order] : 0;
+            return within(order, 0, orders - 1) ? kinds[order] : 0;
         }
 
         int firstOf(int order) {
-            return within(order, 0, size - 1) ? firsts[order] : 0;
+            return within(order, 0, orders - 1) ? firsts[order] : 0;
         }
 
         int secondOf(int order) {
-            return within(order, 0, size - 1) ? seconds[order] : 0;
+            return within(order, 0, orders - 1) ? seconds[order] : 0;
         }
 
-        boolean read(int textLength) {
-            length = Math.min(textLength, bytes.length);
+        boolean read() {
             place = 0;
-            size = 0;
+            orders = 0;
             skipBlanks();
-            // one round more than there is room for, so that the text's end is seen
-            for (int round = 0; round <= MOST && place < length; round++) {
+            for (int round = 0; round < MOST_ORDERS && place < length; round++) {
                 if (!readOrder()) {
                     return false;
                 }
                 skipBlanks();
             }
-            return size > 0 && place >= length;
+            return orders > 0 && place >= length;
         }
 
         private boolean readOrder() {
             int kind = here();
-            if (!isKind(kind) || size >= MOST) {
+            if (!isKind(kind) || orders >= MOST_ORDERS) {
                 return false;
             }
             place++;
@@ -788,10 +797,10 @@ public final class GaugeBounds {
                 return false;
             }
             place++;
-            kinds[size] = kind;
-            firsts[size] = first;
-            seconds[size] = number;
-            size++;
+            kinds[orders] = kind;
+            firsts[orders] = first;
+            seconds[orders] = number;
+            orders++;
             return true;
         }
 

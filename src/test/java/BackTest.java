@@ -56,30 +56,13 @@ public final class BackTest {
         x.loads(10, 3300);
         x.passes(10, 2);
         x.rests(3100);
-        long[] before = state(x);
+        long[] before = Check.state(x);
         Check.does(x, "o0;g0;c5 3555;p1 1;r3400;l10 3000;l-10 3000;p-3 3;");
         x.told(-1);
         Check.due("back()", x.back(), 4);
-        long[] behind = state(x);
-        for (int at = 0; at < before.length; at++) {
-            Check.due("state " + at, behind[at], before[at]);
-        }
+        Check.same("behind back()", Check.state(x), before);
         Check.due("refused(0) is not of a STATE", x.refused(0), 1);
         Check.due("refused(3) is not of a STATE", x.refused(3), 50);
-    }
-
-    private static long[] state(GaugeBounds x) {
-        long[] all = new long[12 + 13 + 44];
-        for (int what = 0; what < 12; what++) {
-            all[what] = x.told(what);
-        }
-        for (int what = 0; what < 13; what++) {
-            all[12 + what] = x.setting(what);
-        }
-        for (int at = 0; at < 44; at++) {
-            all[25 + at] = x.band(at / 22, at / 2 % 11, at % 2);
-        }
-        return all;
     }
 
     private static void callsThatLeaveNone() {

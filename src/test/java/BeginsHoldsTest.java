@@ -28,6 +28,7 @@ public final class BeginsHoldsTest {
     private static void beginsForgets() {
         GaugeBounds x = used();
         Check.due("CLASHES ahead", x.told(8), 2);
+        Check.due("BANDS ahead", x.band(0, 3, 1) + x.band(1, 3, 1), 2);
         Check.due("SHOWN ahead is below 100", x.told(5) < 100 ? 1 : 0, 1);
         Check.due("begins(900, 2000)", x.begins(900, 2000), 600);
         long[] told = {0, 2000, 900, 2000, 689, 100, 0, 0, 0, 0, GaugeBounds.NONE, GaugeBounds.NONE};
@@ -43,9 +44,11 @@ public final class BeginsHoldsTest {
         }
         Check.due("loads(5, 3600)", x.loads(5, 3600), 1780);
         Check.due("nothing of the BAND is left", x.band(0, 6, 0), 1780);
-        x.holds(600, 600);
-        Check.due("loads(5, 3400)", x.loads(5, 3400), 260);
-        Check.due("nothing of the BAND is left", x.band(0, 4, 0), 260);
+        x.holds(500, 500);
+        Check.due("loads(5, 3000)", x.loads(5, 3000), 6880);
+        Check.due("nothing of the BAND is left", x.band(0, 3, 0), 6880);
+        Check.due("loads(-5, 3000)", x.loads(-5, 3000), -6880);
+        Check.due("nothing of the BAND is left", x.band(1, 3, 0), -6880);
         x.passes(10, 10);
         x.rests(3300);
         Check.due("no REST was ahead: C", x.told(2), 900);

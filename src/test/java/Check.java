@@ -31,6 +31,27 @@ final class Check {
         return x.does();
     }
 
+    /** All that a STATE holds, as the getters tell it. */
+    static long[] state(GaugeBounds x) {
+        long[] all = new long[12 + 13 + 44];
+        for (int what = 0; what < 12; what++) {
+            all[what] = x.told(what);
+        }
+        for (int what = 0; what < 13; what++) {
+            all[12 + what] = x.setting(what);
+        }
+        for (int at = 0; at < 44; at++) {
+            all[25 + at] = x.band(at / 22, at / 2 % 11, at % 2);
+        }
+        return all;
+    }
+
+    static void same(String when, long[] got, long[] want) {
+        for (int at = 0; at < want.length; at++) {
+            due(when + ", value " + at, got[at], want[at]);
+        }
+    }
+
     static boolean anyWrong() {
         return wrong != 0;
     }

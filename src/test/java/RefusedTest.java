@@ -1,4 +1,3 @@
-import java.util.Arrays;
 import java.util.LinkedHashMap;
 import java.util.Map;
 import java.util.function.ToLongFunction;
@@ -55,7 +54,7 @@ public final class RefusedTest {
             Check.due(name + " then, how often", x.refused(what), 1);
             Check.due(name + " then, STATES", x.refused(4), 5);
             for (int back = 0; back <= 5; back++) {
-                Check.holds(name + " then, " + back + " back", Arrays.equals(all(x), all(untouched)));
+                Check.same(name + " then, " + back + " back", Check.state(x), Check.state(untouched));
                 x.back();
                 untouched.back();
             }
@@ -72,20 +71,5 @@ public final class RefusedTest {
         x.passes(3, 3);
         Check.type(x, "p1 2;");
         return x;
-    }
-
-    private static long[] all(GaugeBounds x) {
-        long[] all = new long[12 + 13 + 44 + 1];
-        for (int what = 0; what < 12; what++) {
-            all[what] = x.told(what);
-        }
-        for (int what = 0; what < 13; what++) {
-            all[12 + what] = x.setting(what);
-        }
-        for (int at = 0; at < 44; at++) {
-            all[25 + at] = x.band(at / 22, at / 2 % 11, at % 2);
-        }
-        all[69] = x.bands();
-        return all;
     }
 }

@@ -90,15 +90,7 @@ public final class TextsTest {
         y.clings(30);
         y.curve(10, 4321);
         y.passes(-2, 7);
-        for (int what = 0; what < 12; what++) {
-            Check.due("told(" + what + ")", x.told(what), y.told(what));
-        }
-        for (int what = 0; what < 13; what++) {
-            Check.due("setting(" + what + ")", x.setting(what), y.setting(what));
-        }
-        for (int at = 0; at < 44; at++) {
-            Check.due("band(..)", x.band(at / 22, at / 2 % 11, at % 2), y.band(at / 22, at / 2 % 11, at % 2));
-        }
+        Check.same("by orders and by calls", Check.state(x), Check.state(y));
         Check.due("refused(4)", x.refused(4), 1);
     }
 

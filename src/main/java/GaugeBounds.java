@@ -70,7 +70,11 @@ public final class GaugeBounds {
     // ---- what is told
 
     public int told(int what) {
-        return counted(battery.tell(what));
+        if (!within(what, 0, TOLD_KINDS - 1)) {
+            return counted(BAD);
+        }
+        // Not judged by the answer: DRAWN has no bound and may be a refusal's number.
+        return battery.tell(what);
     }
 
     public int volts(int p) {
@@ -179,6 +183,7 @@ public final class GaugeBounds {
         return counted(answer);
     }
 
+    /** Counts a refusal; only for answers that isRefusal can tell from one. */
     private int counted(int answer) {
         if (answer == BAD) {
             timesBad++;
@@ -204,7 +209,8 @@ public final class GaugeBounds {
         }
     }
 
-    // No answer that is due comes near these numbers, so the answer itself tells.
+    // The answer itself tells: but for NONE, none that is due lies below -999900, the least
+    // r of a LOAD. DRAWN alone may, so told does not ask here.
     private static boolean isRefusal(int answer) {
         return answer == BAD || answer == NO || answer == FULL;
     }

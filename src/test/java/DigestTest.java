@@ -25,7 +25,7 @@ public final class DigestTest {
         Check.end("DigestTest");
     }
 
-    private static long byGetters(GaugeBounds x) {
+    static long byGetters(GaugeBounds x) {
         List<Integer> all = new ArrayList<>();
         for (int what = 0; what <= 4; what++) {
             all.add(x.refused(what));

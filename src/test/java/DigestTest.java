@@ -1,3 +1,4 @@
+import java.math.BigInteger;
 import java.util.ArrayList;
 import java.util.List;
 
@@ -47,10 +48,11 @@ public final class DigestTest {
             all.add(x.lasts(i, 0));
             all.add(x.lasts(i, 1));
         }
-        long h = 1690;
+        BigInteger h = BigInteger.valueOf(1690);
         for (int v : all) {
-            h = 31 * h + v;
+            h = h.multiply(BigInteger.valueOf(31)).add(BigInteger.valueOf(v));
         }
-        return h;
+        Check.holds("so many values that h wraps around", h.bitLength() > 64);
+        return h.longValue();
     }
 }

@@ -48,15 +48,18 @@ public final class RefusedTest {
 
     private static void refusedAs(int what, int answer, Map<String, ToLongFunction<GaugeBounds>> calls) {
         calls.forEach((name, call) -> {
-            GaugeBounds x = used();
-            GaugeBounds untouched = used();
-            Check.due(name, call.applyAsLong(x), answer);
-            Check.due(name + " then, how often", x.refused(what), 1);
-            Check.due(name + " then, STATES", x.refused(4), 5);
+            // a new object each time, as all that is looked at would be too many calls of one
             for (int back = 0; back <= 5; back++) {
+                GaugeBounds x = used();
+                GaugeBounds untouched = used();
+                Check.due(name, call.applyAsLong(x), answer);
+                Check.due(name + " then, how often", x.refused(what), 1);
+                Check.due(name + " then, STATES", x.refused(4), 5);
+                for (int time = 0; time < back; time++) {
+                    x.back();
+                    untouched.back();
+                }
                 Check.same(name + " then, " + back + " back", Check.state(x), Check.state(untouched));
-                x.back();
-                untouched.back();
             }
         });
     }

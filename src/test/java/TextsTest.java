@@ -48,13 +48,13 @@ public final class TextsTest {
             {"r3500;;", 6}, {"r3500; ;", 7}, {"r3500;x", 6}, {"r3500:", 5}, {"r3500/", 5}, {"rr", 1}, {"pr", 1},
             {"r3500\t;", 5}, {"p5,3;", 2}, {"p5 r3500;", 3}, {"cr3500;", 1}, {"r3500 r3500;", 6}, {"p+5 3;", 1}, {"r9999;x", 6}, {"o10;o10", 7},
         };
-        GaugeBounds x = new GaugeBounds();
-        long before = x.digest();
+        long before = new GaugeBounds().digest();
         for (Object[] d : due) {
+            GaugeBounds x = new GaugeBounds();
             Check.due("does() of '" + d[0] + "'", Check.does(x, (String) d[0]), -10 - (Integer) d[1]);
             x.clear();
+            Check.due("digest(): nothing is done, nothing counts", x.digest(), before);
         }
-        Check.due("digest(): nothing is done, nothing counts", x.digest(), before);
     }
 
     private static void ordersThatStand() {
@@ -134,12 +134,11 @@ public final class TextsTest {
     }
 
     private static void wholeText() {
-        GaugeBounds x = new GaugeBounds();
-        Check.due("forty orders", Check.does(x, "o1;".repeat(40)), 40);
-        Check.due("the last one ends all", Check.does(x, "o1;".repeat(39).concat("r0;")), -1039);
-        Check.due("no end", Check.does(x, "o1;".repeat(39).concat("o1 ")), -130);
-        Check.due("a fault at the last byte", Check.does(x, "o1;".repeat(39).concat("o1x")), -129);
-        Check.due("blanks ahead", Check.does(x, " ".repeat(117).concat("o1;")), 1);
-        Check.due("blanks behind", Check.does(x, "o1;".concat(" ".repeat(117))), 1);
+        Check.due("forty orders", Check.does(new GaugeBounds(), "o1;".repeat(40)), 40);
+        Check.due("the last one ends all", Check.does(new GaugeBounds(), "o1;".repeat(39).concat("r0;")), -1039);
+        Check.due("no end", Check.does(new GaugeBounds(), "o1;".repeat(39).concat("o1 ")), -130);
+        Check.due("a fault at the last byte", Check.does(new GaugeBounds(), "o1;".repeat(39).concat("o1x")), -129);
+        Check.due("blanks ahead", Check.does(new GaugeBounds(), " ".repeat(117).concat("o1;")), 1);
+        Check.due("blanks behind", Check.does(new GaugeBounds(), "o1;".concat(" ".repeat(117))), 1);
     }
 }

@@ -27,7 +27,8 @@ public final class EdgePassesTest {
         Script.run("L would be -1", "holds(11, 600) | passes(3, 3) = 594 | L = 0 | H = 594");
         Script.run("L is 0 and stays", "passes(99, 1) = 902 | L = 0 | H = 902");
         Script.run("L far below 0", "begins(0, 99999) | holds(5, 99999) | passes(99, 999) = 2097 | L = 0");
-        Script.run("L falls to 0 by OFFSET alone, charged", "offset(9) | holds(9, 600) | passes(-8, 9) = 753 | L = 0 | H = 753");
+        Script.run("L falls to 0 by OFFSET alone, charged", "offset(9) | holds(9, 600) | passes(-8, 9) = 753 | L = 0",
+            "H = 753");
     }
 
     private static void highIsCapacityAtMost() {
@@ -38,7 +39,8 @@ public final class EdgePassesTest {
         Script.run("H rises by OFFSET alone, drawn", "offset(9) | holds(500, 999) | passes(8, 1) = 517 | L = 483 | H = 1000",
             "passes(8, 1) = 534 | L = 466 | H = 1000");
         Script.run("D, not C", "begins(10, 20) | holds(0, 10) | passes(-1, 1) = 12 | H = 12");
-        Script.run("D is 99999", "begins(0, 99999) | holds(0, 99997) | passes(0, 1) = 99998 | passes(0, 1) = 99999 | passes(0, 1) = 99999");
+        Script.run("D is 99999", "begins(0, 99999) | holds(0, 99997) | passes(0, 1) = 99998 | passes(0, 1) = 99999",
+            "passes(0, 1) = 99999");
     }
 
     private static void noIfHighIsBelowZero() {
@@ -84,8 +86,10 @@ public final class EdgePassesTest {
 
     private static void aboveZeroIsDrawn() {
         Script.run("i 1 is drawn", EXACT, "holds(500, 500) | passes(1, 1) = 0 | L = 499 | H = 499 | DRAWN = 1 | SHOWN = 99");
-        Script.run("i 0 is neither", EXACT, "holds(500, 500) | passes(0, 1) = 0 | L = 500 | H = 500 | DRAWN = 0 | SHOWN = 100");
-        Script.run("i -1 is charged", EXACT, "holds(500, 500) | passes(-1, 1) = 0 | L = 501 | H = 501 | DRAWN = -1 | SHOWN = 100");
+        Script.run("i 0 is neither", EXACT, "holds(500, 500) | passes(0, 1) = 0 | L = 500 | H = 500 | DRAWN = 0",
+            "SHOWN = 100");
+        Script.run("i -1 is charged", EXACT, "holds(500, 500) | passes(-1, 1) = 0 | L = 501 | H = 501 | DRAWN = -1",
+            "SHOWN = 100");
     }
 
     private static void drawnAndStepsSinceTheRest() {
@@ -160,14 +164,16 @@ public final class EdgePassesTest {
         Script.run("a REST: H 1", "clings(0) | rests(3001) = 1 | H = 1 | SHOWN = 100");
         Script.run("a REST: H 0", "clings(0) | rests(3000) = 0 | H = 0 | SHOWN = 0");
         Script.run("a REST, H 0 ahead of it", "holds(0, 0) | rests(3000) = 0 | SHOWN = 0");
-        Script.run("a REST that is a CLASH, H 0 ahead of it", "clings(0) | holds(0, 0) | rests(3500) = 0 | CLASHES = 1 | SHOWN = 0");
+        Script.run("a REST that is a CLASH, H 0 ahead of it", "clings(0) | holds(0, 0) | rests(3500) = 0 | CLASHES = 1",
+            "SHOWN = 0");
         Script.run("a REST that is NO", "holds(0, 0) | rests(2989) = NO | SHOWN = 100");
         Script.run("a REST, D 0", "begins(0, 0) | rests(4000) = 0 | SHOWN = 0");
         Script.run("as ORDERS", "offset(0) | does(p10 100;) = 1 | SHOWN = 0 | back() | does(g0; r3000;) = 2 | SHOWN = 0");
     }
 
     private static void shownStaysByOtherCalls() {
-        Script.run("begins: 100", "begins(0, 0) | H = 0 | SHOWN = 100 | passes(0, 1) | SHOWN = 0 | begins(0, 0) | SHOWN = 100");
+        Script.run("begins: 100", "begins(0, 0) | H = 0 | SHOWN = 100 | passes(0, 1) | SHOWN = 0 | begins(0, 0)",
+            "SHOWN = 100");
         Script.run("holds, though H is 0", "holds(0, 0) | H = 0 | MIDDLE = 0 | SHOWN = 100");
         Script.run("loads, though H is 0", "holds(0, 0) | loads(1, 3000) = 0 | SHOWN = 100");
         Script.run("offset, clings, curve", "holds(0, 0) | offset(0) | clings(0) | curve(0, 0) | SHOWN = 100");

@@ -8,6 +8,7 @@ public final class EdgeRestsTest {
         inverseTellsTheOther();
         leastAndGreatestPlace();
         theyChangePlaces();
+        everyVoltage();
         nothingIsLearntWithoutOneAhead();
         leastDrawnAboveZero();
         mostDrawnAboveZero();
@@ -39,8 +40,10 @@ public final class EdgeRestsTest {
     }
 
     private static void inverseTellsTheOther() {
-        Script.run("CLING 10", "inverse(2990, 1) = 0 | inverse(2989, 1) = NONE | inverse(2989, 0) = 0 | inverse(0, 0) = 0 | inverse(0, 1) = NONE",
-            "inverse(4010, 0) = 1000 | inverse(4011, 0) = NONE | inverse(4011, 1) = 1000 | inverse(9999, 0) = NONE | inverse(9999, 1) = 1000",
+        Script.run("CLING 10", "inverse(2990, 1) = 0 | inverse(2989, 1) = NONE | inverse(2989, 0) = 0",
+            "inverse(0, 0) = 0 | inverse(0, 1) = NONE",
+            "inverse(4010, 0) = 1000 | inverse(4011, 0) = NONE | inverse(4011, 1) = 1000 | inverse(9999, 0) = NONE",
+            "inverse(9999, 1) = 1000",
             "BADS = 0 | NOS = 0 | STATES = 0 | RESTS = 0 | a = NONE | b = NONE");
         Script.run("CLING 0", "clings(0) | inverse(3000, 1) = 0 | inverse(2999, 1) = NONE | inverse(2999, 0) = 0",
             "inverse(4000, 0) = 1000 | inverse(4001, 0) = NONE | inverse(4001, 1) = 1000");
@@ -50,13 +53,15 @@ public final class EdgeRestsTest {
 
     private static void leastAndGreatestPlace() {
         Script.run("V(p) + g is v, V(p) - g is v", "inverse(3500, 0) = 490 | inverse(3500, 1) = 510",
-            "clings(0) | inverse(3500, 0) = 500 | inverse(3500, 1) = 500 | clings(1) | inverse(3500, 0) = 499 | inverse(3500, 1) = 501");
+            "clings(0) | inverse(3500, 0) = 500 | inverse(3500, 1) = 500 | clings(1) | inverse(3500, 0) = 499",
+            "inverse(3500, 1) = 501");
         // from 800 to 899 all places have 3800
         String flat = "clings(0) | curve(9, 3801)";
         Script.run("many places with one voltage", flat, "inverse(3799, 0) = 799 | inverse(3799, 1) = 799",
             "inverse(3800, 0) = 800 | inverse(3800, 1) = 899 | inverse(3801, 0) = 900 | inverse(3801, 1) = 900");
         Script.run("the first stretch and the last", "clings(0) | inverse(3001, 0) = 1 | inverse(3001, 1) = 1",
-            "inverse(3099, 1) = 99 | inverse(3100, 0) = 100 | inverse(3101, 0) = 101 | inverse(3999, 0) = 999 | inverse(3999, 1) = 999");
+            "inverse(3099, 1) = 99 | inverse(3100, 0) = 100 | inverse(3101, 0) = 101 | inverse(3999, 0) = 999",
+            "inverse(3999, 1) = 999");
         Script.run("all places", "clings(500) | inverse(3500, 0) = 0 | inverse(3500, 1) = 1000",
             "inverse(3501, 0) = 1 | inverse(3501, 1) = 1000 | inverse(3499, 0) = 0 | inverse(3499, 1) = 999");
     }
@@ -69,16 +74,69 @@ public final class EdgeRestsTest {
         Script.run("between two places", steep, "clings(0) | inverse(3901, 0) = 900 | inverse(3901, 1) = 901",
             "inverse(3959, 0) = 900 | inverse(3959, 1) = 901 | rests(3901) = 451 | a = 900 | b = 901 | L = 450 | H = 901");
         Script.run("CLING just reaches both", steep, "clings(30) | inverse(3930, 0) = 900 | inverse(3930, 1) = 901");
-        Script.run("CLING just does not", steep, "clings(29) | inverse(3930, 0) = 900 | inverse(3930, 1) = 901 | rests(3930) = 451 | a = 900 | b = 901");
-        Script.run("CLING reaches one", steep, "clings(29) | inverse(3929, 0) = 900 | inverse(3929, 1) = 900 | inverse(3931, 0) = 901 | inverse(3931, 1) = 901");
+        Script.run("CLING just does not", steep, "clings(29) | inverse(3930, 0) = 900 | inverse(3930, 1) = 901",
+            "rests(3930) = 451 | a = 900 | b = 901");
+        Script.run("CLING reaches one", steep, "clings(29) | inverse(3929, 0) = 900 | inverse(3929, 1) = 900",
+            "inverse(3931, 0) = 901 | inverse(3931, 1) = 901");
+    }
+
+    /** By every voltage there is, a and b are those that a look at every place finds. */
+    private static void everyVoltage() {
+        everyVoltageOf("clings(10)");
+        everyVoltageOf("clings(0)");
+        everyVoltageOf("clings(500)");
+        everyVoltageOf("clings(1) | curve(9, 3801) | curve(10, 9999) | curve(0, 0)");
+    }
+
+    private static void everyVoltageOf(String settings) {
+        GaugeBounds x = Script.run(settings, settings);
+        int g = x.setting(1);
+        int[] points = new int[11];
+        for (int k = 0; k <= 10; k++) {
+            points[k] = x.setting(k + 2);
+        }
+        int[] volts = new int[1001];
+        for (int p = 0; p <= 1000; p++) {
+            int k = Math.min(p / 100, 9);
+            volts[p] = points[k] + (points[k + 1] - points[k]) * (p - 100 * k) / 100;
+        }
+        for (int v = 0; v <= 9999; v++) {
+            if (v % 200 == 0) {
+                // an object answers 512 calls
+                x = Script.run(settings, settings);
+            }
+            int[] due = placesOf(volts, g, v);
+            Check.due(settings + ": inverse(" + v + ", 0)", x.inverse(v, 0), due[0]);
+            Check.due(settings + ": inverse(" + v + ", 1)", x.inverse(v, 1), due[1]);
+        }
+    }
+
+    private static int[] placesOf(int[] volts, int g, int v) {
+        int a = GaugeBounds.NONE;
+        int b = GaugeBounds.NONE;
+        for (int p = 0; p <= 1000; p++) {
+            if (a == GaugeBounds.NONE && volts[p] + g >= v) {
+                a = p;
+            }
+            if (volts[p] - g <= v) {
+                b = p;
+            }
+        }
+        boolean turned = a != GaugeBounds.NONE && b != GaugeBounds.NONE && a > b;
+        return turned ? new int[] {b, a} : new int[] {a, b};
     }
 
     private static void nothingIsLearntWithoutOneAhead() {
-        Script.run("the first REST", EXACT, "begins(0, 5000) | passes(10, 100) | rests(3000) | C = 0 | D = 5000 | RESTS = 1");
-        Script.run("behind begins", EXACT, "begins(0, 5000) | rests(4000) | begins(0, 5000) | passes(10, 100) | rests(3000) | C = 0 | D = 5000 | RESTS = 1");
-        Script.run("behind back", EXACT, "begins(0, 5000) | rests(4000) | back() | passes(10, 100) | rests(3000) | C = 0 | D = 5000 | RESTS = 1");
-        Script.run("the one ahead was NO", EXACT, "begins(0, 5000) | rests(4001) = NO | passes(10, 100) | rests(3000) | C = 0 | D = 5000 | RESTS = 1");
-        Script.run("the second REST", EXACT, "begins(0, 5000) | rests(4000) | passes(10, 100) | rests(3000) | C = 1000 | D = 1000 | RESTS = 2");
+        Script.run("the first REST", EXACT, "begins(0, 5000) | passes(10, 100) | rests(3000) | C = 0 | D = 5000",
+            "RESTS = 1");
+        Script.run("behind begins", EXACT, "begins(0, 5000) | rests(4000) | begins(0, 5000) | passes(10, 100)",
+            "rests(3000) | C = 0 | D = 5000 | RESTS = 1");
+        Script.run("behind back", EXACT, "begins(0, 5000) | rests(4000) | back() | passes(10, 100) | rests(3000) | C = 0",
+            "D = 5000 | RESTS = 1");
+        Script.run("the one ahead was NO", EXACT, "begins(0, 5000) | rests(4001) = NO | passes(10, 100) | rests(3000)",
+            "C = 0 | D = 5000 | RESTS = 1");
+        Script.run("the second REST", EXACT, "begins(0, 5000) | rests(4000) | passes(10, 100) | rests(3000) | C = 1000",
+            "D = 1000 | RESTS = 2");
     }
 
     /** CLING 0, OFFSET 1, CAPACITY 0 to 5000: what is learnt of n steps by i, where it falls by one place. */
@@ -98,12 +156,14 @@ public final class EdgeRestsTest {
         fellByOne("f is 1", "passes(0, 1)", "C = 0 | D = 1000 | CLASHES = 0");
         fellByOne("f is 0", "passes(-1, 1)", "C = 0 | D = 5000 | CLASHES = 0");
         fellByOne("f is -1", "passes(-2, 1)", "C = 0 | D = 5000 | CLASHES = 0");
-        Script.run("nothing passed: e and f are 0", "clings(0) | begins(0, 5000) | rests(3700) | rests(3699) | C = 0 | D = 5000");
+        Script.run("nothing passed: e and f are 0", "clings(0) | begins(0, 5000) | rests(3700) | rests(3699) | C = 0",
+            "D = 5000");
     }
 
     /** OFFSET 0, CLING 1, so that the first REST's A is 699, its B 701; one is drawn. */
     private static void restedThen(String sentence, String then) {
-        Script.run(sentence, "offset(0) | clings(1) | begins(0, 5000) | rests(3700) | a = 699 | b = 701 | passes(1, 1)", then);
+        Script.run(sentence, "offset(0) | clings(1) | begins(0, 5000) | rests(3700) | a = 699 | b = 701",
+            "passes(1, 1)", then);
     }
 
     private static void spanOfTheLeastCapacity() {
@@ -148,12 +208,16 @@ public final class EdgeRestsTest {
         String moreOfC = "rests(3700) | passes(1, 1) | rests(3701)";
         String ready = "offset(0) | clings(1) | ";
         Script.run("C comes to D", ready + "begins(0, 1000)", moreOfC, "C = 1000 | D = 1000 | CLASHES = 0");
-        Script.run("C comes above D", ready + "begins(0, 999)", moreOfC, "C = 0 | D = 999 | CLASHES = 1 | RESTS = 2 | a = 700 | STEPS = 0");
+        Script.run("C comes above D", ready + "begins(0, 999)", moreOfC, "C = 0 | D = 999 | CLASHES = 1 | RESTS = 2",
+            "a = 700 | STEPS = 0");
         String lessOfD = "rests(3700) | passes(0, 1) | rests(3699)";
         Script.run("D comes to C", "clings(0) | begins(1000, 5000)", lessOfD, "C = 1000 | D = 1000 | CLASHES = 0");
-        Script.run("D comes below C", "clings(0) | begins(1001, 5000)", lessOfD, "C = 1001 | D = 5000 | CLASHES = 1 | RESTS = 2 | a = 699 | STEPS = 0");
-        Script.run("more than 99999 is learnt", EXACT, "begins(0, 99999) | rests(3700) | passes(99, 2) | rests(3699) | C = 0 | D = 99999 | CLASHES = 1");
-        Script.run("99000 is learnt", EXACT, "begins(0, 99999) | rests(3700) | passes(99, 1) | rests(3699) | C = 99000 | D = 99000 | CLASHES = 0");
+        Script.run("D comes below C", "clings(0) | begins(1001, 5000)", lessOfD, "C = 1001 | D = 5000 | CLASHES = 1",
+            "RESTS = 2 | a = 699 | STEPS = 0");
+        Script.run("more than 99999 is learnt", EXACT, "begins(0, 99999) | rests(3700) | passes(99, 2) | rests(3699)",
+            "C = 0 | D = 99999 | CLASHES = 1");
+        Script.run("99000 is learnt", EXACT, "begins(0, 99999) | rests(3700) | passes(99, 1) | rests(3699) | C = 99000",
+            "D = 99000 | CLASHES = 0");
     }
 
     private static void chargeCutAndUp() {
@@ -188,7 +252,8 @@ public final class EdgeRestsTest {
     }
 
     private static void bothClash() {
-        Script.run("CAPACITY and CHARGE: two CLASHES", EXACT, "begins(600, 600) | rests(3500) = 0 | passes(10, 10) = 0 | L = 200",
+        Script.run("CAPACITY and CHARGE: two CLASHES", EXACT, "begins(600, 600) | rests(3500) = 0 | passes(10, 10) = 0",
+            "L = 200",
             "rests(3350) = 0 | CLASHES = 2 | C = 600 | D = 600 | L = 200 | H = 200");
         // 666 is learnt of C by 100 drawn, 600 by 90; a C / 1000 is 210
         Script.run("CAPACITY alone: one", EXACT, "begins(600, 600) | rests(3500) = 0 | passes(10, 10) = 0 | holds(210, 210)",
@@ -197,12 +262,14 @@ public final class EdgeRestsTest {
             "rests(3350) = 0 | CLASHES = 1 | L = 211 | H = 211");
         Script.run("neither: none", EXACT, "begins(600, 600) | rests(3500) = 0 | passes(10, 9) = 0 | L = 210",
             "rests(3350) = 0 | CLASHES = 0 | L = 210 | H = 210");
-        Script.run("begins: no CLASHES", EXACT, "begins(600, 600) | holds(0, 0) | rests(3500) | CLASHES = 1 | begins(600, 600) | CLASHES = 0");
+        Script.run("begins: no CLASHES", EXACT, "begins(600, 600) | holds(0, 0) | rests(3500) | CLASHES = 1",
+            "begins(600, 600) | CLASHES = 0");
     }
 
     /** D becomes 1000, b D / 1000 is 699; L is put above it, so that CHARGE stays by a CLASH. */
     private static void capped(String sentence, String holds, String then) {
-        Script.run(sentence, "clings(0) | begins(0, 5000) | rests(3700) | passes(0, 1)", holds, "rests(3699)", "D = 1000", then);
+        Script.run(sentence, "clings(0) | begins(0, 5000) | rests(3700)",
+            "passes(0, 1)", holds, "rests(3699)", "D = 1000", then);
     }
 
     private static void capacityAtMost() {
@@ -213,13 +280,17 @@ public final class EdgeRestsTest {
         capped("L is D + 1", "holds(1001, 5000)", "L = 1000 | H = 1000 | CLASHES = 1");
         capped("L is D - 1", "holds(999, 5000)", "L = 999 | H = 1000 | CLASHES = 1");
         capped("no CLASH", "holds(699, 5000)", "L = 699 | H = 699 | CLASHES = 0");
-        Script.run("H less L then", "clings(0) | begins(0, 5000) | rests(3700) | passes(0, 1) | holds(999, 5000) | rests(3699) = 1");
+        Script.run("H less L then", "clings(0) | begins(0, 5000) | rests(3700) | passes(0, 1) | holds(999, 5000)",
+            "rests(3699) = 1");
     }
 
     private static void theOneAheadOfTheNext() {
-        Script.run("the last REST counts, not the first", EXACT, "begins(0, 5000) | rests(4000) | passes(1, 1) | rests(3996)",
-            "C = 250 | D = 250 | passes(1, 1) | rests(3992) | C = 250 | D = 250 | CLASHES = 0 | RESTS = 3 | a = 992 | b = 992");
-        Script.run("a CLASH is the REST ahead, too", EXACT, "begins(0, 5000) | rests(3500) | holds(5000, 5000) | rests(3900) | CLASHES = 1",
+        Script.run("the last REST counts, not the first", EXACT, "begins(0, 5000) | rests(4000) | passes(1, 1)",
+            "rests(3996)",
+            "C = 250 | D = 250 | passes(1, 1) | rests(3992) | C = 250 | D = 250 | CLASHES = 0 | RESTS = 3 | a = 992",
+            "b = 992");
+        Script.run("a CLASH is the REST ahead, too", EXACT, "begins(0, 5000) | rests(3500) | holds(5000, 5000)",
+            "rests(3900) | CLASHES = 1",
             "passes(1, 1) | rests(3896) | C = 250 | D = 250");
     }
 
@@ -227,7 +298,8 @@ public final class EdgeRestsTest {
         for (String refusal : new String[] {"rests(2989) = NO", "rests(4011) = NO"}) {
             String ready = "rests(3700) | loads(7, 3000) | passes(5, 9) | offset(2) | offset(1) | passes(3, 3)";
             GaugeBounds x = Script.run("ahead of " + refusal, ready);
-            GaugeBounds y = Script.run(refusal, ready, refusal, "NOS = 1 | BADS = 0 | FULLS = 0 | STATES = 5 | DRAWN = 54 | RESTS = 1");
+            GaugeBounds y = Script.run(refusal, ready, refusal, "NOS = 1 | BADS = 0 | FULLS = 0 | STATES = 5",
+            "DRAWN = 54 | RESTS = 1");
             Check.same(refusal, Check.state(y), Check.state(x));
             x.back();
             y.back();

@@ -7,8 +7,11 @@ import java.util.Set;
 import java.util.TreeSet;
 import java.util.stream.Collectors;
 
-/** The public face is the document's, and nothing beside it can be seen (LANGUAGE.md 1, 2, 5). */
+/** The public face is the document's, and nothing beside it can be seen (LANGUAGE.md 1, 2, 5, 11). */
 public final class FaceTest {
+    private static final int MOST_CLASSES = 12;
+    private static final int MOST_FIELDS = 20;
+    private static final int MOST_PARAMETERS = 7;
     private static final String[] METHODS = {
         "int begins(int,int)", "int holds(int,int)", "int offset(int)", "int clings(int)", "int curve(int,int)",
         "int passes(int,int)", "int rests(int)", "int loads(int,int)", "int told(int)", "int volts(int)",
@@ -35,10 +38,7 @@ public final class FaceTest {
         for (Method m : GaugeBounds.class.getDeclaredMethods()) {
             String face = m.getReturnType() + " " + m.getName() + Arrays.stream(m.getParameterTypes())
                 .map(Class::getName).collect(Collectors.joining(",", "(", ")"));
-            if (Modifier.isPrivate(m.getModifiers())) {
-                boolean doubled = Arrays.stream(METHODS).anyMatch(p -> p.contains(" " + m.getName() + "("));
-                Check.holds("no private method bears a public name: " + face, !doubled);
-            } else if (!m.isSynthetic()) {
+            if (!Modifier.isPrivate(m.getModifiers()) && !m.isSynthetic()) {
                 seen.add(face);
             }
         }
@@ -63,13 +63,28 @@ public final class FaceTest {
     }
 
     private static void classesInside() {
-        for (Class<?> inside : GaugeBounds.class.getDeclaredClasses()) {
+        Class<?>[] all = GaugeBounds.class.getDeclaredClasses();
+        Check.holds("classes", all.length > 0 && all.length < MOST_CLASSES);
+        for (Class<?> inside : all) {
             int modifiers = inside.getModifiers();
             Check.holds("static, not open: " + inside, Modifier.isStatic(modifiers)
                 && !Modifier.isPublic(modifiers) && !Modifier.isProtected(modifiers));
             for (Field f : inside.getDeclaredFields()) {
                 staticIsFinal(f);
             }
+            small(inside);
+        }
+        small(GaugeBounds.class);
+    }
+
+    private static void small(Class<?> one) {
+        long fields = Arrays.stream(one.getDeclaredFields()).filter(f -> !Modifier.isStatic(f.getModifiers())).count();
+        Check.holds("fields of " + one, fields <= MOST_FIELDS);
+        for (Method m : one.getDeclaredMethods()) {
+            Check.holds("parameters of " + m, m.getParameterCount() <= MOST_PARAMETERS);
+            boolean bearsPublicName = Arrays.stream(METHODS).anyMatch(p -> p.contains(" " + m.getName() + "("));
+            Check.holds("no private method bears a public name: " + m,
+                !Modifier.isPrivate(m.getModifiers()) || !bearsPublicName);
         }
     }
 
